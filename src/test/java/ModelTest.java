@@ -1,0 +1,258 @@
+import java.util.Random;
+
+/** Long runs of calls, with seeds that are fixed, on the program and on SlowDesk. */
+public final class ModelTest {
+    private static final String[] TEXTS = {"wake 30", "wake 12;rest 4", "carry 30;wait 2", "pay 3; wait 1;rest 2", "",
+        "wake 99;rest 24;carry 99;pay 99;wait 99", "wake 15; carry 9", "wake 40 ;rest 5;carry 45"};
+    private static final String BYTES = "wake rest carry pay wait ;;;  0123459 \0\u00ffAz";
+    private static final int[] WILD = {Integer.MIN_VALUE, -2, -1, 0, 1, 7, 8, 12, 60, 100, 255, 256, 999, 1000,
+        Integer.MAX_VALUE};
+
+    private final Random random;
+    private final CourierDesk desk = new CourierDesk();
+    private final SlowDesk slow = new SlowDesk();
+    private final int seed;
+    private int towns;
+    private int hours;
+    private int longest;
+
+    private ModelTest(int seed) {
+        this.seed = seed;
+        random = new Random(seed);
+    }
+
+    public static void main(String[] args) {
+        for (int seed = 1; seed <= 1500 && !Checks.anyFailed(); seed++) {
+            new ModelTest(seed).run(seed % 3);
+        }
+        for (int seed = 1; seed <= 300 && !Checks.anyFailed(); seed++) {
+            new ModelTest(-seed).wildRun();
+        }
+        for (int seed = 1; seed <= 20000 && !Checks.anyFailed(); seed++) {
+            new ModelTest(seed).texts();
+        }
+        Checks.close("ModelTest");
+    }
+
+    private void due(String call, int got, int want) {
+        Checks.due("seed " + seed + ": " + call, got, want);
+    }
+
+    private int any(int bound) {
+        return random.nextInt(bound);
+    }
+
+    private void run(int kind) {
+        towns = 3 + any(6);
+        hours = kind == 0 ? 40 : kind == 1 ? 90 : 200;
+        longest = kind == 2 ? 30 : 12;
+        int calls = 40 + any(200);
+        for (int k = 0; k < calls; k++) {
+            change();
+            if (any(20) == 0) {
+                compare();
+            }
+        }
+        due("layOut", desk.layOut(), slow.layOut());
+        compare();
+    }
+
+    private void change() {
+        int which = any(100);
+        if (which < 25) {
+            int leaves = any(hours);
+            int from = any(towns);
+            int to = any(towns);
+            int comes = leaves + 1 + any(longest);
+            due("ride", desk.ride(from, leaves, to, comes), slow.ride(from, leaves, to, comes));
+        } else if (which < 27) {
+            int town = any(towns);
+            int first = any(hours);
+            int last = first + any(4);
+            due("shut", desk.shut(town, first, last), slow.shut(town, first, last));
+        } else if (which < 30) {
+            text(TEXTS[any(TEXTS.length)]);
+        } else if (which < 34) {
+            int town = any(towns);
+            int hour = any(hours / 4);
+            due("courier", desk.courier(town, hour), slow.courier(town, hour));
+        } else if (which < 80) {
+            takeOne();
+        } else if (which < 82) {
+            int courier = any(7);
+            int hour = any(hours);
+            due("ill", desk.ill(courier, hour), slow.ill(courier, hour));
+        } else if (which < 92) {
+            addBag();
+        } else if (which < 95) {
+            due("layOut", desk.layOut(), slow.layOut());
+        } else {
+            int town = any(towns);
+            int hour = any(hours / 2);
+            int to = any(towns);
+            due("soonest", desk.soonest(town, hour, to), slow.soonest(town, hour, to));
+            int set = any(1 << towns);
+            due("everywhere", desk.everywhere(town, hour, set), slow.everywhere(town, hour, set));
+        }
+    }
+
+    private void addBag() {
+        int from = any(towns);
+        int hour = any(hours / 2);
+        int to = any(towns);
+        int weight = 1 + any(12);
+        int rank = any(4);
+        int due = any(hours);
+        due("bag", desk.bag(from, hour, to, weight, rank, due), slow.bag(from, hour, to, weight, rank, due));
+    }
+
+    /** Tries rides from a chance one on until one is taken, as most are refused. */
+    private void takeOne() {
+        int courier = any(6);
+        int rides = slow.rides.size();
+        int start = any(rides + 1);
+        for (int k = 0; k < 15; k++) {
+            int ride = (start + k) % (rides + 1);
+            int answer = slow.take(courier, ride);
+            due("take", desk.take(courier, ride), answer);
+            if (answer == 0) {
+                return;
+            }
+        }
+    }
+
+    private void text(String text) {
+        Checks.write(desk, text);
+        slow.tape = text;
+        due("rules '" + text + "'", desk.rules(), slow.rules());
+    }
+
+    private void texts() {
+        StringBuilder text = new StringBuilder(any(2) == 0 ? "" : TEXTS[any(TEXTS.length)]);
+        int edits = any(4);
+        for (int k = 0; k < edits; k++) {
+            int place = any(text.length() + 1);
+            int kind = any(3);
+            if (kind == 0 && place < text.length()) {
+                text.deleteCharAt(place);
+            } else if (kind == 1) {
+                text.insert(place, BYTES.charAt(any(BYTES.length())));
+            } else {
+                text.append(any(2) == 0 ? ";" : " ; ").append(TEXTS[any(TEXTS.length)]);
+            }
+        }
+        if (text.length() > 100) {
+            text.setLength(100);
+        }
+        text(TEXTS[any(TEXTS.length)]);
+        text(text.toString());
+        for (int what = 10; what < 15; what++) {
+            due("count " + what, desk.count(what), slow.count(what));
+        }
+    }
+
+    private void compare() {
+        for (int what = -1; what < 30; what++) {
+            due("count(" + what + ")", desk.count(what), slow.count(what));
+        }
+        for (int c = -1; c <= 6; c++) {
+            due("pay", desk.pay(c), slow.pay(c));
+            for (int i = -1; i <= 12; i++) {
+                due("taken", desk.taken(c, i), slow.taken(c, i));
+                due("awake", desk.awake(c, i), slow.awake(c, i));
+                due("load(" + c + ", " + i + ")", desk.load(c, i), slow.load(c, i));
+            }
+        }
+        for (int b = -1; b <= 12; b++) {
+            for (int what = -1; what <= 4; what++) {
+                due("laid(" + b + ", " + what + ")", desk.laid(b, what), slow.laid(b, what));
+                for (int i = -1; i <= 16; i++) {
+                    due("leg", desk.leg(b, i, what), slow.leg(b, i, what));
+                    due("seal", desk.seal(b, i, what), slow.seal(b, i, what));
+                }
+            }
+            for (int h = -1; h < hours + 40; h++) {
+                due("hand(" + b + ", " + h + ")", desk.hand(b, h), slow.hand(b, h));
+            }
+        }
+        int hour = any(hours / 2);
+        for (int town = 0; town < towns; town++) {
+            int to = any(towns);
+            due("soonest", desk.soonest(town, hour, to), slow.soonest(town, hour, to));
+        }
+    }
+
+    private int wild() {
+        return any(3) == 0 ? WILD[any(WILD.length)] : any(3) == 0 ? any(1000) : any(14);
+    }
+
+    private void wildRun() {
+        towns = 8;
+        hours = 1000;
+        for (int k = 0; k < 400; k++) {
+            int[] w = {wild(), wild(), wild(), wild(), wild(), wild()};
+            int which = any(22);
+            due("call " + which + " " + java.util.Arrays.toString(w), onDesk(which, w), onSlow(which, w));
+        }
+        compare();
+    }
+
+    private int onDesk(int which, int[] w) {
+        switch (which) {
+            case 0: return desk.ride(w[0], w[1], w[2], w[3]);
+            case 1: return desk.shut(w[0], w[1], w[2]);
+            case 2: return desk.feed(w[0], w[1], w[2], w[3], w[4]);
+            case 3: return desk.end(w[0]);
+            case 4: return desk.rules();
+            case 5: return desk.courier(w[0], w[1]);
+            case 6: return desk.take(w[0], w[1]);
+            case 7: return desk.ill(w[0], w[1]);
+            case 8: return desk.taken(w[0], w[1]);
+            case 9: return desk.awake(w[0], w[1]);
+            case 10: return desk.pay(w[0]);
+            case 11: return desk.bag(w[0], w[1], w[2], w[3], w[4], w[5]);
+            case 12: return desk.layOut();
+            case 13: return desk.laid(w[0], w[1]);
+            case 14: return desk.leg(w[0], w[1], w[2]);
+            case 15: return desk.hand(w[0], w[1]);
+            case 16: return desk.seal(w[0], w[1], w[2]);
+            case 17: return desk.load(w[0], w[1]);
+            case 18: return desk.soonest(w[0], w[1], w[2]);
+            case 19: return desk.everywhere(w[0], w[1], w[2]);
+            case 20: return desk.count(w[0]);
+            default: return desk.ride(any2(w[0]), any2(w[1]), any2(w[2] + 1), any2(w[1]) + 3);
+        }
+    }
+
+    private int onSlow(int which, int[] w) {
+        switch (which) {
+            case 0: return slow.ride(w[0], w[1], w[2], w[3]);
+            case 1: return slow.shut(w[0], w[1], w[2]);
+            case 2: return slow.feed(w[0], w[1], w[2], w[3], w[4]);
+            case 3: return slow.end(w[0]);
+            case 4: return slow.rules();
+            case 5: return slow.courier(w[0], w[1]);
+            case 6: return slow.take(w[0], w[1]);
+            case 7: return slow.ill(w[0], w[1]);
+            case 8: return slow.taken(w[0], w[1]);
+            case 9: return slow.awake(w[0], w[1]);
+            case 10: return slow.pay(w[0]);
+            case 11: return slow.bag(w[0], w[1], w[2], w[3], w[4], w[5]);
+            case 12: return slow.layOut();
+            case 13: return slow.laid(w[0], w[1]);
+            case 14: return slow.leg(w[0], w[1], w[2]);
+            case 15: return slow.hand(w[0], w[1]);
+            case 16: return slow.seal(w[0], w[1], w[2]);
+            case 17: return slow.load(w[0], w[1]);
+            case 18: return slow.soonest(w[0], w[1], w[2]);
+            case 19: return slow.everywhere(w[0], w[1], w[2]);
+            case 20: return slow.count(w[0]);
+            default: return slow.ride(any2(w[0]), any2(w[1]), any2(w[2] + 1), any2(w[1]) + 3);
+        }
+    }
+
+    /** Brings a wild number into the towns, so that some of the wild rides stand. */
+    private static int any2(int number) {
+        return number & 7;
+    }
+}
