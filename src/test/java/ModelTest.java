@@ -220,7 +220,7 @@ public final class ModelTest {
             case 18: return desk.soonest(w[0], w[1], w[2]);
             case 19: return desk.everywhere(w[0], w[1], w[2]);
             case 20: return desk.count(w[0]);
-            default: return desk.ride(any2(w[0]), any2(w[1]), any2(w[2] + 1), any2(w[1]) + 3);
+            default: return desk.ride(inTowns(w[0]), inTowns(w[1]), inTowns(w[2] + 1), inTowns(w[1]) + 3);
         }
     }
 
@@ -247,12 +247,12 @@ public final class ModelTest {
             case 18: return slow.soonest(w[0], w[1], w[2]);
             case 19: return slow.everywhere(w[0], w[1], w[2]);
             case 20: return slow.count(w[0]);
-            default: return slow.ride(any2(w[0]), any2(w[1]), any2(w[2] + 1), any2(w[1]) + 3);
+            default: return slow.ride(inTowns(w[0]), inTowns(w[1]), inTowns(w[2] + 1), inTowns(w[1]) + 3);
         }
     }
 
     /** Brings a wild number into the towns, so that some of the wild rides stand. */
-    private static int any2(int number) {
+    private static int inTowns(int number) {
         return number & 7;
     }
 }
