@@ -614,19 +614,19 @@ public final class PromiseTest {
         seals(x, 0, 5, 100, 5, 0, 6, 101, 11, 0, 12, 102);
         due("the desk has it between", x.hand(0, 8), 101);
 
+        // The twelfth ride of one courier, then the first of the next: side by side, but in other hands.
         CourierDesk y = new CourierDesk();
         y.courier(0, 0);
-        y.courier(1, 0);
+        y.courier(0, 0);
         for (int i = 0; i < 12; i++) {
             y.ride(i % 2, 10 * i, 1 - i % 2, 10 * i + 1);
             y.take(0, i);
         }
         y.ride(0, 120, 2, 121);
-        y.courier(0, 0);
-        due("take of the next", y.take(2, 12), 0);
+        due("take of the next", y.take(1, 12), 0);
         y.bag(1, 105, 2, 1, 0, 0);
         due("layOut of it", y.layOut(), 0);
-        seals(y, 0, 105, 101, 110, 0, 111, 100, 120, 2, 121, 102);
+        seals(y, 0, 105, 101, 110, 0, 111, 100, 120, 1, 121, 102);
     }
 
     private static void handsAtOnce() {
