@@ -669,7 +669,10 @@ public final class CourierDesk {
             sealCount[bag]++;
         }
 
-        /** A desk has its seal even if the bag leaves in the hour in which it comes there. */
+        /**
+         * The first desk has its seal without a way, too, as the bag stays with it; and each desk has its seal even
+         * if the bag leaves in the hour in which it comes there.
+         */
         void sealWay(int bag) {
             addSeal(bag, hour[bag], DESK + from[bag]);
             boolean kept = false;
@@ -765,14 +768,14 @@ public final class CourierDesk {
         boolean layBag(int bag) {
             bags.clearWay(bag);
             int soonest = soonestFor(bag);
-            if (soonest == NEVER) {
-                return false;
+            boolean comes = soonest != NEVER;
+            if (comes) {
+                countLegsToGo(bag, soonest);
+                bags.comesAt[bag] = soonest;
+                chooseWay(bag);
             }
-            countLegsToGo(bag, soonest);
-            bags.comesAt[bag] = soonest;
-            chooseWay(bag);
             bags.sealWay(bag);
-            return true;
+            return comes;
         }
 
         boolean hasRoom(int slot, int bag) {

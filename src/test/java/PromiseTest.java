@@ -441,7 +441,7 @@ public final class PromiseTest {
         due("doesn't come", x.laid(2, 0), NONE);
         due("doesn't come, late", x.laid(2, 1), NONE);
         due("doesn't come, legs", x.laid(2, 2), 0);
-        due("doesn't come, seals", x.laid(2, 3), 0);
+        due("doesn't come, seals", x.laid(2, 3), 1);
         due("there too late", x.laid(3, 0), NONE);
         due("laid what 4", x.laid(0, 4), NONE);
         due("laid what -1", x.laid(0, -1), NONE);
@@ -504,7 +504,7 @@ public final class PromiseTest {
         due("highest rank first", x.laid(3, 0), 10);
         due("load", x.load(0, 0), 21);
         due("no legs any more", x.laid(2, 2), 0);
-        due("no seals any more", x.laid(2, 3), 0);
+        seals(x, 2, 0, 100);
     }
 
     private static void layOutOnlyWhatGoes() {
@@ -645,11 +645,23 @@ public final class PromiseTest {
         x.bag(4, 7, 2, 1, 0, 10);
         due("never laid out, ahead", x.hand(0, 6), NONE);
         due("never laid out", x.hand(0, 7), 104);
+        seals(x, 0);
         due("layOut", x.layOut(), 1);
         due("without a way, ahead", x.hand(0, 6), NONE);
         due("without a way", x.hand(0, 7), 104);
         due("without a way for ever", x.hand(0, 999), 104);
-        seals(x, 0);
+        seals(x, 0, 7, 104);
+        x.bag(3, 999, 2, 1, 0, 10);
+        seals(x, 1);
+        due("layOut of both", x.layOut(), 2);
+        seals(x, 0, 7, 104);
+        seals(x, 1, 999, 103);
+        single(x, 4, 8, 2, 9);
+        due("layOut with a courier", x.layOut(), 1);
+        seals(x, 0, 7, 104, 8, 0, 9, 102);
+        x.ill(0, 0);
+        due("layOut without him", x.layOut(), 2);
+        seals(x, 0, 7, 104);
     }
 
     private static void loads() {

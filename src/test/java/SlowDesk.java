@@ -285,6 +285,7 @@ final class SlowDesk {
         for (Bag b : order) {
             b.way = null;
             b.seals.clear();
+            b.seals.add(new Seal(b.hour, 100 + b.from));
             search(b, b.from, b.hour, new ArrayList<>(), legs);
             if (b.way == null) {
                 lost++;
@@ -321,7 +322,6 @@ final class SlowDesk {
     }
 
     private void lead(Bag b) {
-        b.seals.add(new Seal(b.hour, 100 + b.from));
         for (int i = 0; i < b.way.size(); i++) {
             Leg l = b.way.get(i);
             Leg before = i == 0 ? null : b.way.get(i - 1);
@@ -340,10 +340,13 @@ final class SlowDesk {
         if (b == null || what < 0 || what > 3) {
             return -1;
         }
+        if (what == 3) {
+            return b.seals.size();
+        }
         if (b.way == null) {
             return what < 2 ? -1 : 0;
         }
-        int[] answers = {comesOf(b), Math.max(0, comesOf(b) - b.due), b.way.size(), b.seals.size()};
+        int[] answers = {comesOf(b), Math.max(0, comesOf(b) - b.due), b.way.size()};
         return answers[what];
     }
 
