@@ -161,55 +161,44 @@ public final class PromiseTest {
     }
 
     private static void rulesFaults() {
-        fault("wak 5", 0, 0);
-        fault("wakes 5", 0, 0);
-        fault(" Wake 5", 1, 0);
-        fault("waKe 5", 0, 0);
-        fault("5", 0, 0);
-        fault(";", 0, 0);
-        fault("wake", 4, 0);
-        fault("wake  ", 6, 0);
-        fault("wake ;", 5, 0);
-        fault("wake -5", 5, 0);
-        fault("wake rest 5", 5, 0);
-        fault("wake 0", 5, 1);
-        fault("wake 00", 5, 1);
-        fault("wake  100", 6, 1);
-        fault("wake 005", 5, 1);
-        fault("rest 25", 5, 1);
-        fault("rest 0", 5, 1);
-        fault("carry 0", 6, 1);
-        fault("pay 100", 4, 1);
-        fault("wait 100", 5, 1);
-        fault("wake 5;", 7, 0);
-        fault("wake 5; ", 8, 0);
-        fault("wake 5;;rest 6", 7, 0);
-        fault("wake 5 rest 6", 7, 0);
-        fault("wake 5rest 6", 6, 0);
-        fault("wake 5 6", 7, 0);
-        fault("wake 5;wake 6", 7, 2);
-        fault("wake 5; wake 0", 8, 2);
-        fault("wake 5;rest 6;carry 7;pay 8;wait 9;wake 5", 35, 2);
-        fault("wake 5;rest 6;carry 7;pay 8;wait 9;", 35, 0);
-        fault("wake 5\0", 6, 0);
-        fault("wake\t5", 4, 0);
-        fault("wake 5;\u00e9", 7, 0);
+        Checks.fault("wak 5", 0, 0);
+        Checks.fault("wakes 5", 0, 0);
+        Checks.fault(" Wake 5", 1, 0);
+        Checks.fault("waKe 5", 0, 0);
+        Checks.fault("5", 0, 0);
+        Checks.fault(";", 0, 0);
+        Checks.fault("wake", 4, 0);
+        Checks.fault("wake  ", 6, 0);
+        Checks.fault("wake ;", 5, 0);
+        Checks.fault("wake -5", 5, 0);
+        Checks.fault("wake rest 5", 5, 0);
+        Checks.fault("wake 0", 5, 1);
+        Checks.fault("wake 00", 5, 1);
+        Checks.fault("wake  100", 6, 1);
+        Checks.fault("wake 005", 5, 1);
+        Checks.fault("rest 25", 5, 1);
+        Checks.fault("rest 0", 5, 1);
+        Checks.fault("carry 0", 6, 1);
+        Checks.fault("pay 100", 4, 1);
+        Checks.fault("wait 100", 5, 1);
+        Checks.fault("wake 5;", 7, 0);
+        Checks.fault("wake 5; ", 8, 0);
+        Checks.fault("wake 5;;rest 6", 7, 0);
+        Checks.fault("wake 5 rest 6", 7, 0);
+        Checks.fault("wake 5rest 6", 6, 0);
+        Checks.fault("wake 5 6", 7, 0);
+        Checks.fault("wake 5;wake 6", 7, 2);
+        Checks.fault("wake 5; wake 0", 8, 2);
+        Checks.fault("wake 5;rest 6;carry 7;pay 8;wait 9;wake 5", 35, 2);
+        Checks.fault("wake 5;rest 6;carry 7;pay 8;wait 9;", 35, 0);
+        Checks.fault("wake 5\0", 6, 0);
+        Checks.fault("wake\t5", 4, 0);
+        Checks.fault("wake 5;\u00e9", 7, 0);
         StringBuilder long100 = new StringBuilder("wake 5;rest ");
         while (long100.length() < 100) {
             long100.append(' ');
         }
-        fault(long100.toString(), 100, 0);
-    }
-
-    private static void fault(String text, int place, int kind) {
-        CourierDesk x = new CourierDesk();
-        Checks.rules(x, "wake 30;rest 9;carry 31;pay 32;wait 33");
-        due("rules '" + text + "'", Checks.rules(x, text), -2 - (1 + 8 * place + kind));
-        due("tape behind '" + text + "'", x.count(4), 0);
-        int[] stay = {30, 9, 31, 32, 33};
-        for (int k = 0; k < 5; k++) {
-            due("count " + (10 + k) + " behind '" + text + "'", x.count(10 + k), stay[k]);
-        }
+        Checks.fault(long100.toString(), 100, 0);
     }
 
     private static void rulesReplace() {
@@ -403,21 +392,13 @@ public final class PromiseTest {
         due("count bags", x.count(2), 12);
     }
 
-    /** Courier c of a town takes one ride that is made for him. */
-    private static int single(CourierDesk x, int from, int leaves, int to, int comes) {
-        int courier = x.courier(from, leaves);
-        int ride = x.ride(from, leaves, to, comes);
-        due("take of a single ride", x.take(courier, ride), 0);
-        return courier;
-    }
-
     private static void layOutSoonest() {
         CourierDesk x = new CourierDesk();
-        single(x, 0, 9, 2, 30);
-        single(x, 0, 10, 1, 20);
-        single(x, 1, 20, 2, 29);
-        single(x, 1, 19, 2, 25);
-        single(x, 0, 9, 2, 12);
+        Checks.single(x, 0, 9, 2, 30);
+        Checks.single(x, 0, 10, 1, 20);
+        Checks.single(x, 1, 20, 2, 29);
+        Checks.single(x, 1, 19, 2, 25);
+        Checks.single(x, 0, 9, 2, 12);
         x.bag(0, 10, 2, 5, 0, 27);
         x.bag(0, 9, 2, 5, 0, 12);
         x.bag(0, 10, 3, 5, 0, 27);
@@ -451,11 +432,11 @@ public final class PromiseTest {
 
     private static void layOutFewest() {
         CourierDesk x = new CourierDesk();
-        single(x, 0, 0, 1, 5);
-        single(x, 1, 5, 2, 10);
-        single(x, 2, 10, 3, 20);
-        single(x, 0, 6, 2, 9);
-        single(x, 1, 8, 3, 20);
+        Checks.single(x, 0, 0, 1, 5);
+        Checks.single(x, 1, 5, 2, 10);
+        Checks.single(x, 2, 10, 3, 20);
+        Checks.single(x, 0, 6, 2, 9);
+        Checks.single(x, 1, 8, 3, 20);
         x.bag(0, 0, 3, 1, 0, 0);
         due("fewest", x.layOut(), 0);
         due("two legs of three", x.laid(0, 2), 2);
@@ -488,7 +469,7 @@ public final class PromiseTest {
 
     private static void layOutRanksAndRoom() {
         CourierDesk x = new CourierDesk();
-        single(x, 0, 5, 1, 10);
+        Checks.single(x, 0, 5, 1, 10);
         x.bag(0, 0, 1, 12, 3, 10);
         x.bag(0, 0, 1, 9, 4, 10);
         x.bag(0, 0, 1, 11, 3, 10);
@@ -504,12 +485,12 @@ public final class PromiseTest {
         due("highest rank first", x.laid(3, 0), 10);
         due("load", x.load(0, 0), 21);
         due("no legs any more", x.laid(2, 2), 0);
-        seals(x, 2, 0, 100);
+        Checks.seals(x, 2, 0, 100);
     }
 
     private static void layOutOnlyWhatGoes() {
         CourierDesk x = new CourierDesk();
-        single(x, 0, 5, 1, 10);
+        Checks.single(x, 0, 5, 1, 10);
         x.ride(0, 4, 1, 6);
         x.bag(0, 0, 1, 1, 0, 10);
         due("comes", x.layOut(), 0);
@@ -553,22 +534,13 @@ public final class PromiseTest {
         due("comes anew", x.laid(0, 0), 9);
     }
 
-    private static void seals(CourierDesk x, int bag, int... hoursAndHolders) {
-        due("seals of bag " + bag, x.laid(bag, 3), hoursAndHolders.length / 2);
-        for (int i = 0; 2 * i < hoursAndHolders.length; i++) {
-            due("seal " + i + " hour", x.seal(bag, i, 0), hoursAndHolders[2 * i]);
-            due("seal " + i + " holder", x.seal(bag, i, 1), hoursAndHolders[2 * i + 1]);
-        }
-        due("seal behind", x.seal(bag, hoursAndHolders.length / 2, 0), NONE);
-    }
-
     private static void handsAndSeals() {
         CourierDesk x = new CourierDesk();
-        single(x, 0, 5, 1, 10);
-        single(x, 1, 12, 2, 20);
+        Checks.single(x, 0, 5, 1, 10);
+        Checks.single(x, 1, 12, 2, 20);
         x.bag(0, 3, 2, 1, 0, 10);
         due("layOut", x.layOut(), 0);
-        seals(x, 0, 3, 100, 5, 0, 10, 101, 12, 1, 20, 102);
+        Checks.seals(x, 0, 3, 100, 5, 0, 10, 101, 12, 1, 20, 102);
         int[] hours = {0, 2, 3, 4, 5, 9, 10, 11, 12, 19, 20, 999};
         int[] hands = {NONE, NONE, 100, 100, 0, 0, 101, 101, 1, 1, 102, 102};
         for (int i = 0; i < hours.length; i++) {
@@ -593,7 +565,7 @@ public final class PromiseTest {
         x.take(0, 1);
         x.bag(0, 5, 2, 1, 0, 10);
         due("layOut", x.layOut(), 0);
-        seals(x, 0, 5, 100, 5, 0, 20, 102);
+        Checks.seals(x, 0, 5, 100, 5, 0, 20, 102);
         due("hand in its first hour", x.hand(0, 5), 0);
         due("hand between", x.hand(0, 11), 0);
     }
@@ -611,7 +583,7 @@ public final class PromiseTest {
         x.shut(0, 8, 9);
         x.bag(0, 5, 2, 1, 0, 10);
         due("layOut", x.layOut(), 0);
-        seals(x, 0, 5, 100, 5, 0, 6, 101, 11, 0, 12, 102);
+        Checks.seals(x, 0, 5, 100, 5, 0, 6, 101, 11, 0, 12, 102);
         due("the desk has it between", x.hand(0, 8), 101);
 
         // The twelfth ride of one courier, then the first of the next: side by side, but in other hands.
@@ -626,16 +598,16 @@ public final class PromiseTest {
         due("take of the next", y.take(1, 12), 0);
         y.bag(1, 105, 2, 1, 0, 0);
         due("layOut of it", y.layOut(), 0);
-        seals(y, 0, 105, 101, 110, 0, 111, 100, 120, 1, 121, 102);
+        Checks.seals(y, 0, 105, 101, 110, 0, 111, 100, 120, 1, 121, 102);
     }
 
     private static void handsAtOnce() {
         CourierDesk x = new CourierDesk();
-        single(x, 0, 5, 1, 10);
-        single(x, 1, 10, 2, 20);
+        Checks.single(x, 0, 5, 1, 10);
+        Checks.single(x, 1, 10, 2, 20);
         x.bag(0, 5, 2, 1, 0, 10);
         due("layOut", x.layOut(), 0);
-        seals(x, 0, 5, 100, 5, 0, 10, 101, 10, 1, 20, 102);
+        Checks.seals(x, 0, 5, 100, 5, 0, 10, 101, 10, 1, 20, 102);
         due("hand at the change", x.hand(0, 10), 1);
         due("hand ahead of it", x.hand(0, 9), 0);
     }
@@ -645,23 +617,23 @@ public final class PromiseTest {
         x.bag(4, 7, 2, 1, 0, 10);
         due("never laid out, ahead", x.hand(0, 6), NONE);
         due("never laid out", x.hand(0, 7), 104);
-        seals(x, 0);
+        Checks.seals(x, 0);
         due("layOut", x.layOut(), 1);
         due("without a way, ahead", x.hand(0, 6), NONE);
         due("without a way", x.hand(0, 7), 104);
         due("without a way for ever", x.hand(0, 999), 104);
-        seals(x, 0, 7, 104);
+        Checks.seals(x, 0, 7, 104);
         x.bag(3, 999, 2, 1, 0, 10);
-        seals(x, 1);
+        Checks.seals(x, 1);
         due("layOut of both", x.layOut(), 2);
-        seals(x, 0, 7, 104);
-        seals(x, 1, 999, 103);
-        single(x, 4, 8, 2, 9);
+        Checks.seals(x, 0, 7, 104);
+        Checks.seals(x, 1, 999, 103);
+        Checks.single(x, 4, 8, 2, 9);
         due("layOut with a courier", x.layOut(), 1);
-        seals(x, 0, 7, 104, 8, 0, 9, 102);
+        Checks.seals(x, 0, 7, 104, 8, 0, 9, 102);
         x.ill(0, 0);
         due("layOut without him", x.layOut(), 2);
-        seals(x, 0, 7, 104);
+        Checks.seals(x, 0, 7, 104);
     }
 
     private static void loads() {

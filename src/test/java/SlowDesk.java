@@ -398,6 +398,7 @@ final class SlowDesk {
         boolean[][] can = new boolean[rides.size()][100];
         for (int number = 1; number <= 12; number++) {
             boolean[][] next = new boolean[rides.size()][100];
+            boolean went = false;
             for (int k = 0; k < rides.size(); k++) {
                 Ride r = rides.get(k);
                 if (!goes(r)) {
@@ -420,10 +421,14 @@ final class SlowDesk {
                     }
                 }
                 for (boolean any : next[k]) {
+                    went |= any;
                     if (any && r.to == to) {
                         best = Math.min(best, r.comes);
                     }
                 }
+            }
+            if (!went) {
+                break;
             }
             can = next;
         }
