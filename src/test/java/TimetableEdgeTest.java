@@ -15,6 +15,7 @@ public final class TimetableEdgeTest {
         newObjectHasNothing();
         newObjectAnswersNothing();
         newObjectsAreApart();
+        lastCallOfAnObject();
         rideTowns();
         rideHours();
         rideToAnotherTown();
@@ -93,6 +94,24 @@ public final class TimetableEdgeTest {
         Checks.inForce(x, "beside a used one", 24, 8, 20, 1, 0);
         Checks.single(x, 0, 5, 1, 9);
         due("load beside a used one", x.load(0, 0), 0);
+    }
+
+    private static void lastCallOfAnObject() {
+        Checks.sentence("An object is used for at most 512 calls after it has been made");
+        CourierDesk x = new CourierDesk();
+        x.ride(0, 5, 1, 9);
+        x.courier(0, 0);
+        due("take", x.take(0, 0), 0);
+        x.bag(0, 0, 1, 1, 0, 0);
+        for (int calls = 4; calls < 508; calls += 3) {
+            due("layOut", x.layOut(), 0);
+            due("soonest", x.soonest(0, 0, 1), 9);
+            due("end", x.end(1), NONE);
+        }
+        due("call 509", x.ill(0, 5), 1);
+        due("call 510", x.layOut(), 1);
+        due("call 511", x.take(0, 0), 0);
+        due("call 512", x.layOut(), 0);
     }
 
     private static void rideTowns() {
