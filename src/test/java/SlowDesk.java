@@ -79,10 +79,11 @@ final class SlowDesk {
         return spells.size();
     }
 
-    int feed(int... numbers) {
+    int feed(int a, int b, int c, int d, int e) {
         if (tape.length() > 80) {
             return -1;
         }
+        int[] numbers = {a, b, c, d, e};
         for (int n : numbers) {
             tape += "" + (char) (n >>> 24) + (char) (n >>> 16 & 255) + (char) (n >>> 8 & 255) + (char) (n & 255);
         }
